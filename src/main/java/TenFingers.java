@@ -14,7 +14,6 @@ public final class TenFingers {
 
     private static final int BOARDS = 4;
     private static final int HANDS = 4;
-    private static final int LINES = 3;
     private static final int COLUMNS = 10;
     private static final int KEYS = 30;
     private static final int LETTERS = 26;
@@ -493,9 +492,9 @@ public final class TenFingers {
 
     /** The HAND whose GAPS are nearest to THE ROW; none if two are equally near. */
     private int handNearest() {
-        int nearestHand = NONE;
-        int least = Integer.MAX_VALUE;
-        for (int hand = 0; hand < HANDS; hand++) {
+        int nearestHand = 0;
+        int least = strokes.farFrom(now.row, now.hands[0]);
+        for (int hand = 1; hand < HANDS; hand++) {
             int distance = strokes.farFrom(now.row, now.hands[hand]);
             if (distance < least) {
                 least = distance;

@@ -154,6 +154,8 @@ public final class PromiseTests {
         due("sign <", 26, x.sign(false, 1));
         due("written with =", -21, Check.written(x, "a="));
         due("written with ;", -21, Check.written(x, "a;"));
+        due("a fault at the first", -20, Check.written(x, ".a"));
+        due("a fault at the first", -20, Check.meant(x, "<a"));
         due("written stays by a fault", 3, x.count(1));
         due("meant with a dot", -23, Check.meant(x, "abc.d"));
         due("meant stays by a fault", 40, x.count(0));
@@ -359,6 +361,10 @@ public final class PromiseTests {
         Check.meant(x, "xabca");
         due("not at the end", 3, x.pieces());
         due("last", 4, x.piece(2, 0));
+        Check.meant(x, "bb");
+        due("another first letter", 2, x.pieces());
+        Check.meant(x, "aa");
+        due("another last letter", 2, x.pieces());
         Check.meant(x, "a");
         due("word beyond the end", 1, x.pieces());
         due("none", -9, x.piece(0, 2));
@@ -564,6 +570,31 @@ public final class PromiseTests {
         Check.board(x, 3, ".........a/........b./..........");
         Check.meant(x, "ab");
         due("a from 9 to 0", 9, x.better(0, 3));
+        betterEdges();
+    }
+
+    private static void betterEdges() {
+        TenFingers x = new TenFingers();
+        Check.board(x, 0, "a........./.b......../..........");
+        Check.meant(x, "ab");
+        x.law(3, 3, 10);
+        x.law(3, 4, 1);
+        due("keys beside each other", 1, x.better(3, 0));
+        Check.board(x, 0, "....a....b/........../..........");
+        x.law(0, 0, 50);
+        x.law(0, 1, 49);
+        due("by one less", 9, x.better(0, 0));
+        x.law(0, 1, 50);
+        due("no less", -9, x.better(0, 0));
+        Check.board(x, 1, "ab......../........../..........");
+        due("same is no finger for eight", -9, x.better(0, 1));
+        x.law(0, 1, 51);
+        due("one less", 5, x.better(0, 1));
+        Check.word(x, "ab");
+        x.practise(0, 10);
+        due("one less, cut in a piece", -9, x.better(0, 1));
+        x.law(0, 1, 52);
+        due("two less, cut in a piece", 5, x.better(0, 1));
     }
 
     private static void climb() {
@@ -589,6 +620,16 @@ public final class PromiseTests {
         Check.board(x, 1, "ab......../........../..........");
         due("till there is none", 1, x.climb(0, 1, 5));
         due("none", 0, x.climb(0, 1, 1));
+        TenFingers y = new TenFingers();
+        Check.board(y, 0, "ab......../........../..........");
+        Check.meant(y, "ab");
+        due("first of all calls", 1, y.climb(0, 0, 5));
+        Check.board(y, 0, "ab......../........../..........");
+        y.law(0, 1, 101);
+        due("time", 201, y.time(0, 0, false));
+        Check.word(y, "ab");
+        y.practise(0, 10);
+        due("pieces of now", 0, y.climb(0, 0, 5));
         due("n 0", -4, x.climb(0, 1, 0));
         due("n 6", -6, x.climb(0, 1, 6));
         due("hand 4", -1, x.climb(4, 1, 0));
@@ -603,6 +644,8 @@ public final class PromiseTests {
         due("summer", 24, x.summer(80, 2, 9));
         due("none", -9, x.summer(0, 1, 1));
         due("quick", 1, x.summer(99, 50, 50));
+        due("none of days 0 .. 998", -9, x.summer(25, 3, 1));
+        due("none of days 0 .. 998", -9, x.summer(15, 1, 4));
         due("as much on day 5", 5, x.summer(0, 50, 50));
         due("start -1", -4, x.summer(-1, 51, 51));
         due("start 100", -6, x.summer(100, 1, 1));
@@ -744,6 +787,16 @@ public final class PromiseTests {
         x.unput();
         putAll(x, 5, 0, 0);
         due("0 is least", 0, x.span(0, 0, false));
+        x.unput();
+        putAll(x, 5, 0, 7);
+        due("0 is least, ahead of more", 0, x.span(0, 0, false));
+        x.unput();
+        putAll(x, 5, 5, 5);
+        Check.board(x, 2, "q....p..../........../..........");
+        Check.meant(x, "xqx");
+        due("behind one on no key: same", -9, x.span(2, 1, true));
+        Check.meant(x, "xpx");
+        due("behind one on no key: alt", -9, x.span(2, 0, true));
         due("law 3", -2, x.span(0, 3, true));
         due("law -1", -2, x.span(0, -1, true));
         due("board ahead of law", -1, x.span(4, 3, true));
@@ -762,6 +815,9 @@ public final class PromiseTests {
         Check.board(x, 1, "r........./f........./..........");
         Check.meant(x, "rtf");
         due("one on no key between", 2, x.ache(1, 0));
+        Check.meant(x, "qwpo");
+        due("another finger of the half", 1, x.ache(0, 1));
+        due("another finger of the half", 1, x.ache(0, 6));
         due("finger 8", -1, x.ache(0, 8));
         due("finger -1", -1, x.ache(0, -1));
         due("board 4", -1, x.ache(4, 0));
@@ -780,6 +836,8 @@ public final class PromiseTests {
         due("adds more than line", -9, x.pauses(0, 2, 5));
         due("again and again", 0 + 1 + 3 + 3, x.pauses(0, 3, 1));
         due("rest 2", 1 + 2 + 2, x.pauses(0, 3, 2));
+        Check.meant(x, "qap");
+        due("the later of two aches more", 2, x.pauses(0, 3, 3));
         due("line 999", 0, x.pauses(0, 999, 999));
         due("on an empty board", 0, x.pauses(1, 1, 0));
         due("line 0", -4, x.pauses(0, 0, 1000));
@@ -831,6 +889,8 @@ public final class PromiseTests {
         due("board -1", -1, x.soonest(0, -1, 0));
         Check.meant(x, "");
         due("of several the least", 1, x.soonest(0, 0, 5));
+        Check.meant(x, "looklooklook");
+        due("pace 2, as 3 has a slip", 2, x.soonest(0, 0, 9999));
     }
 
     private static void imageAndOn() {
@@ -841,8 +901,12 @@ public final class PromiseTests {
         Check.word(x, "ok");
         x.practise(0, 5);
         x.law(2, 3, 7);
+        x.law(0, 0, 6);
+        x.law(0, 5, 5);
         putAll(x, 4, 5);
         due("image", 1, x.image());
+        x.law(0, 0, 66);
+        x.law(0, 5, 55);
         Check.board(x, 0, EMPTY);
         Check.board(x, 3, QWERTY);
         Check.meant(x, "a");
@@ -864,6 +928,8 @@ public final class PromiseTests {
             due("written", 26, x.sign(false, 3));
             due("words", 1, x.count(2));
             due("law", 7, x.law(2, 3, 9));
+            due("law 0 of hand 0", 6, x.law(0, 0, 9));
+            due("law 5 of hand 0", 5, x.law(0, 5, 9));
             due("practised", 6, x.practise(0, 1));
             due("row", 3, x.put(1));
             due("tape stays", 4, x.count(4));
