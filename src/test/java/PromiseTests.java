@@ -655,34 +655,6 @@ public final class PromiseTests {
         due("gain 51", -6, x.summer(0, 1, 51));
         due("counted", 3, x.count(14));
         due("counted", 3, x.count(16));
-        everySummer(x);
-    }
-
-    private static void everySummer(TenFingers x) {
-        int last = 0;
-        for (int start = 0; start <= 99; start++) {
-            for (int step = 1; step <= 50; step++) {
-                for (int gain = 1; gain <= 50; gain += 7) {
-                    int want = summerByDays(start, step, gain);
-                    last = Math.max(last, want);
-                    due("summer " + start + " " + step + " " + gain, want, x.summer(start, step, gain));
-                }
-            }
-        }
-        due("the last day comes near 998", 1, last > 990 && last <= 998 ? 1 : 0);
-    }
-
-    private static int summerByDays(int start, int step, int gain) {
-        int ahead = 0;
-        int does = start;
-        for (int day = 0; day <= 998; day++) {
-            ahead += does - 100;
-            if (ahead >= 0) {
-                return day;
-            }
-            does = does + step > 100 + gain ? 100 + gain : does + step;
-        }
-        return -9;
     }
 
     private static void putAndUnput() {
