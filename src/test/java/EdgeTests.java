@@ -28,6 +28,7 @@ public final class EdgeTests {
         everySummer();
         row();
         far();
+        farOfKeys();
         nearest();
         spanOfLaws();
         spanOfLetters();
@@ -408,6 +409,32 @@ public final class EdgeTests {
         due("the farthest", 40 * 9000, y.far(0, 0));
     }
 
+    private static void farOfKeys() {
+        CHECK.part("FAR: GAPS of MEANT, from the letter ahead, by eight fingers");
+        for (int from = 0; from < 30; from++) {
+            TenFingers x = new TenFingers();
+            x.law(1, 0, 7);
+            putAll(x, 0, 0);
+            for (int to = 0; to < 30; to++) {
+                Check.board(x, 2, from == to ? TermsTests.lay(from) : TermsTests.lay(from, to));
+                Check.meant(x, from == to ? "aa" : "ab");
+                due("keys " + from + " " + to, 7 + x.gap(1, 2, from, to), x.far(1, 2));
+            }
+        }
+        TenFingers x = with(TermsTests.lay(0, 9, 10), "abc");
+        putAll(x, 100, 100, 100);
+        due("b behind a, c behind b", 0, x.far(0, 0));
+        Check.meant(x, "acb");
+        due("c behind a, b behind c", 70, x.far(0, 0));
+        Check.meant(x, "bac");
+        due("a behind b, c behind a", 70, x.far(0, 0));
+        x.unput();
+        putAll(x, 100, 100, 170);
+        due("the third as it is", 0, x.far(0, 0));
+        Check.meant(x, "acb");
+        due("the second is so", 140, x.far(0, 0));
+    }
+
     private static TenFingers hands(int... alts) {
         TenFingers x = with(TermsTests.lay(0, 9), "aba");
         for (int hand = 0; hand < 4; hand++) {
@@ -559,6 +586,11 @@ public final class EdgeTests {
         due("rest 999 at 2", 2, x.pauses(0, 2, 999));
         due("rest 999 at 1", 4, x.pauses(0, 1, 999));
         due("line 999", 0, x.pauses(0, 999, 999));
+        CHECK.part("PAUSES: each letter adds its ACHE, as the one ahead is");
+        TenFingers y = with(TermsTests.lay(0, 10, 9), "abc");
+        due("1, 3, 1: ahead of the second and the third", 2, y.pauses(0, 3, 3));
+        Check.meant(y, "cab");
+        due("1, 1, 3: ahead of the third", 1, y.pauses(0, 3, 3));
         CHECK.part("... a letter on no KEY adds none");
         Check.meant(x, "azbzz");
         due("two letters", 0, x.pauses(0, 2, 0));
@@ -669,6 +701,14 @@ public final class EdgeTests {
                 due(letters + " letters, mend " + mend, best, x.soonest(0, 0, mend));
             }
         }
+        TenFingers x = with(TermsTests.lay(0, 1), "ab".repeat(20));
+        x.law(0, 0, 0);
+        x.law(0, 1, 0);
+        due("no time by eight fingers", 1, x.soonest(0, 0, 0));
+        x.law(0, 1, 999);
+        x.law(0, 3, 0);
+        x.law(0, 4, 0);
+        due("no time by two fingers", 9, x.soonest(0, 0, 0));
         due("slips of no cost", 9, timed(40, 100, 90).soonest(0, 0, 0));
         due("slips of great cost", 1, timed(40, 100, 90).soonest(0, 0, 9999));
         due("mend -1", -4, timed(4, 0, 0).soonest(0, 0, -1));

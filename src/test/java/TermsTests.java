@@ -365,7 +365,12 @@ public final class TermsTests {
             found.append(x.piece(i, 0)).append(',').append(x.piece(i, 1)).append(',').append(x.piece(i, 2)).append(' ');
         }
         due(meant + " is " + found + ", not " + want, found.toString().trim().equals(want), true);
-        due("none behind the last", -9, x.piece(x.pieces(), 0));
+        for (int what = 0; what < 3; what++) {
+            due("none behind the last", -9, x.piece(x.pieces(), what));
+            due("none ahead of the first", -9, x.piece(-1, what));
+            due("none far behind", -9, x.piece(Integer.MAX_VALUE, what));
+            due("none far ahead", -9, x.piece(Integer.MIN_VALUE, what));
+        }
     }
 
     private static void pieces() {
@@ -383,6 +388,9 @@ public final class TermsTests {
         duePieces("", "");
         duePieces("a", "0,1,-9", "ab");
         duePieces("ba", "0,1,-9 1,1,-9", "ab");
+        duePieces("bb", "0,1,-9 1,1,-9", "ab");
+        duePieces("aa", "0,1,-9 1,1,-9", "ab");
+        duePieces("acb", "0,1,-9 1,1,-9 2,1,-9", "ab", "abb", "bcb");
         duePieces("bab", "0,1,-9 1,2,0", "ab");
         duePieces("aab", "0,1,-9 1,2,0", "ab");
         duePieces("abca", "0,3,0 3,1,-9", "abc", "ca");
