@@ -1,17 +1,12 @@
-import java.io.IOException;
 import java.lang.reflect.Constructor;
 import java.lang.reflect.Field;
 import java.lang.reflect.Method;
 import java.lang.reflect.Modifier;
-import java.nio.file.Files;
-import java.nio.file.Path;
 import java.util.List;
 import java.util.Set;
 import java.util.TreeSet;
-import java.util.regex.Matcher;
-import java.util.regex.Pattern;
 
-/** The public face of the class, and those rules of LANGUAGE.md that can be seen without reading closely. */
+/** The public face of the class, and what of LANGUAGE.md can be seen of the compiled class. */
 public final class FaceTests {
     private static final List<String> FACE = List.of(
         "int feed(int, long)", "int board(int)", "int text(boolean)", "int word()", "int keyOf(int, int)",
@@ -22,16 +17,11 @@ public final class FaceTests {
         "int far(int, int)", "int nearest(int)", "int span(int, int, boolean)", "int ache(int, int)",
         "int pauses(int, int, int)", "int pace(int, int, int, int)", "int soonest(int, int, int)", "int image()",
         "int on()", "int count(int)");
-    private static final List<String> RULED_OUT = List.of(
-        "\\b(throw|throws|try|catch|synchronized|assert|import|package|protected|var)\\b", "->", "::",
-        "\\b(System|Object|Thread|Random|Class|Exception)\\b", "Exact\\b", "\\binstanceof\\b", "\\bString\\b",
-        "\\b(equals|hashCode|toString)\\b", "static\\s*\\{", "\\bnew\\s+\\w+\\([^()]*\\)\\s*\\{");
     private static final Check CHECK = new Check("FaceTests");
 
-    public static void main(String[] args) throws IOException {
+    public static void main(String[] args) {
         face();
         nested();
-        source(Path.of(args.length > 0 ? args[0] : "src/main/java/TenFingers.java"));
         CHECK.end();
     }
 
@@ -79,15 +69,6 @@ public final class FaceTests {
                 boolean fits = !Modifier.isStatic(field.getModifiers()) || Modifier.isFinal(field.getModifiers());
                 CHECK.due(field + " is final if it is static", 1, fits ? 1 : 0);
             }
-        }
-    }
-
-    private static void source(Path file) throws IOException {
-        CHECK.part("LANGUAGE.md");
-        String code = Files.readString(file).replaceAll("(?s)/\\*.*?\\*/", "").replaceAll("//[^\n]*", "");
-        for (String ruledOut : RULED_OUT) {
-            Matcher matcher = Pattern.compile(ruledOut).matcher(code);
-            CHECK.due(matcher.find() ? matcher.group() : ruledOut, 0, matcher.reset().find() ? 1 : 0);
         }
     }
 }
