@@ -21,6 +21,7 @@ public final class EdgeTests {
         betterFirst();
         betterLess();
         betterWithPieces();
+        betterOnKeys();
         climb();
         climbTillNone();
         summerDays();
@@ -232,6 +233,17 @@ public final class EdgeTests {
         due("51 and 50", 5, pieced(102, 10).better(2, 0));
         due("climb, 50 and 50", 0, pieced(101, 999).climb(2, 0, 5));
         due("climb, 51 and 50", 1, pieced(102, 999).climb(2, 0, 5));
+    }
+
+    /** By great LAWS a letter would be quicker on no KEY at all (999), but an EXCHANGE leaves each on a KEY. */
+    private static void betterOnKeys() {
+        CHECK.part("BETTER: of all EXCHANGES of two KEYS, none of a KEY and no KEY");
+        int[] five = {5, 18, 28, 14, 1};
+        dueBest("not beyond 29", 514, five, new int[] {189, 999, 0, 999, 999, 999}, "daebbbacee");
+        int[] six = {13, 8, 0, 21, 15, 25};
+        dueBest("not beyond 29", 125, six, new int[] {742, 999, 999, 0, 999, 798}, "edbfebc");
+        dueBest("not below 0", 3, new int[] {0, 14}, new int[] {999, 999, 639, 999, 0, 251}, "ba");
+        dueBest("not below 0", 2, new int[] {12, 0}, new int[] {999, 999, 0, 999, 0, 999}, "ababa");
     }
 
     private static TenFingers crowded() {

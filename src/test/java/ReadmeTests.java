@@ -32,7 +32,8 @@ public final class ReadmeTests {
         }
         CHECK.due("calls of the class", methods().size(), calls);
         CHECK.part("what the negative answers mean");
-        for (String answer : new String[] {"-1 NOBODY", "-2 OTHER", "-3 STATE", "-4 BELOW", "-6 ROOM", "-9", "-20 less"}) {
+        String[] answers = {"-1 NOBODY", "-2 OTHER", "-3 STATE", "-4 BELOW", "-6 ROOM", "-9", "-20 less"};
+        for (String answer : answers) {
             holds(answer + " has a row", readme.contains("\n| " + answer));
         }
         CHECK.part("how to run its tests");
